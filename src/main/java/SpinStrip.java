@@ -98,7 +98,7 @@ public final class SpinStrip {
 
     public SpinStrip() {
         tape = new Tape();
-        draft = new Draft();
+        draft = new Draft(tape);
         grid = new Grid();
         now = new Setup();
         past = new Past();
@@ -141,7 +141,7 @@ public final class SpinStrip {
     }
 
     public int read() {
-        draft.build(tape);
+        draft.build();
         tape.length = 0;
         faultPlace = draft.faultPlace;
         if (draft.fault == 0) {
@@ -451,21 +451,12 @@ public final class SpinStrip {
         int states = grid.states();
         int many = 0;
         for (int s = 0; s < states; s++) {
-            if (now.allows(s) && !(ground && energies.of(s) == groundEnergy) && isStuck(s)) {
+            boolean counts = now.allows(s) && !(ground && energies.of(s) == groundEnergy);
+            if (counts && energies.hasNoneLower(s, now.pinned, states)) {
                 many++;
             }
         }
         return many;
-    }
-
-    private boolean isStuck(int bits) {
-        int energy = energies.of(bits);
-        for (int site = 0; site < grid.sites; site++) {
-            if (!now.isPinned(site) && energies.of(bits ^ (1 << site)) < energy) {
-                return false;
-            }
-        }
-        return true;
     }
 
     public int rows(int r, int row, int energy) {
@@ -801,10 +792,15 @@ public final class SpinStrip {
 
     // ---- the parts ----
 
-    /** The bytes told so far, and the token of them that was found last. */
+    /** The bytes told so far, and, when they are read, the tokens that they are cut into. */
     private static final class Tape {
         private final byte[] bytes = new byte[MOST_BYTES];
+        private final int[] kinds = new int[MOST_TOKENS];
+        private final int[] numbers = new int[MOST_TOKENS];
+        private final int[] places = new int[MOST_TOKENS];
         private int length;
+        private int many;
+        /** The token found last: its kind, its number if it is an INT, its first byte and the byte behind it. */
         private int kind;
         private int number;
         private int start;
@@ -823,6 +819,46 @@ public final class SpinStrip {
             return at >= 0 && at < length && at < bytes.length ? bytes[at] : 0;
         }
 
+        /** Goes on as long as the grammar does: the fault, whose place is the start of the token found last. */
+        private int cut() {
+            int want = WANT_STRIP;
+            many = 0;
+            end = 0;
+            for (int n = 0; n <= MOST_TOKENS; n++) {
+                findToken(end);
+                if (kind == END) {
+                    return want == WANT_TELL ? 0 : FAULT_SYNTAX;
+                }
+                want = wantBehind(want, kind);
+                if (want == NONE) {
+                    return FAULT_SYNTAX;
+                }
+                keepToken();
+            }
+            return FAULT_ROOM;
+        }
+
+        private void keepToken() {
+            if (many >= 0 && many < MOST_TOKENS) {
+                kinds[many] = kind;
+                numbers[many] = number;
+                places[many] = start;
+                many++;
+            }
+        }
+
+        private int kindAt(int i) {
+            return i >= 0 && i < many && i < kinds.length ? kinds[i] : END;
+        }
+
+        private int numberAt(int i) {
+            return i >= 0 && i < many && i < numbers.length ? numbers[i] : 0;
+        }
+
+        private int placeAt(int i) {
+            return i >= 0 && i < many && i < places.length ? places[i] : NONE;
+        }
+
         private void findToken(int from) {
             start = from;
             while (start < length && isBlank(byteAt(start))) {
@@ -834,7 +870,8 @@ public final class SpinStrip {
                 end = length;
                 kind = END;
             } else if (isLetter(first)) {
-                findWord();
+                skipLetters();
+                kind = wordKind();
             } else if (isDigit(first)) {
                 findInt();
             } else {
@@ -842,11 +879,10 @@ public final class SpinStrip {
             }
         }
 
-        private void findWord() {
+        private void skipLetters() {
             while (end < length && isLetter(byteAt(end))) {
                 end++;
             }
-            kind = wordKind();
         }
 
         private void findInt() {
@@ -898,59 +934,6 @@ public final class SpinStrip {
         private static boolean isDigit(int b) {
             return b >= '0' && b <= '9';
         }
-    }
-
-    /** The tokens of a text that is being read. */
-    private static final class Tokens {
-        private final int[] kinds = new int[MOST_TOKENS];
-        private final int[] numbers = new int[MOST_TOKENS];
-        private final int[] places = new int[MOST_TOKENS];
-        private int many;
-
-        /** Cuts the tape into tokens as far as the grammar goes along: the fault, its place being where the tape stands. */
-        private int cut(Tape tape) {
-            int want = WANT_STRIP;
-            int from = 0;
-            many = 0;
-            for (int n = 0; n <= MOST_TOKENS; n++) {
-                tape.findToken(from);
-                if (tape.kind == END) {
-                    return want == WANT_TELL ? 0 : FAULT_SYNTAX;
-                }
-                want = wantBehind(want, tape.kind);
-                if (want == NONE) {
-                    return FAULT_SYNTAX;
-                }
-                if (!keep(tape)) {
-                    return FAULT_ROOM;
-                }
-                from = tape.end;
-            }
-            return FAULT_ROOM;
-        }
-
-        private boolean keep(Tape tape) {
-            if (many >= MOST_TOKENS) {
-                return false;
-            }
-            kinds[many] = tape.kind;
-            numbers[many] = tape.number;
-            places[many] = tape.start;
-            many++;
-            return true;
-        }
-
-        private int kindAt(int i) {
-            return i >= 0 && i < many && i < kinds.length ? kinds[i] : END;
-        }
-
-        private int numberAt(int i) {
-            return i >= 0 && i < many && i < numbers.length ? numbers[i] : 0;
-        }
-
-        private int placeAt(int i) {
-            return i >= 0 && i < many && i < places.length ? places[i] : NONE;
-        }
 
         private static int wantBehind(int want, int kind) {
             boolean isInt = kind == INT;
@@ -991,7 +974,7 @@ public final class SpinStrip {
 
     /** What a text tells, gathered apart from the strip, which a fault must leave as it is. */
     private static final class Draft {
-        private final Tokens tokens = new Tokens();
+        private final Tape tape;
         private final Setup setup = new Setup();
         private int fault;
         private int faultPlace;
@@ -1005,16 +988,20 @@ public final class SpinStrip {
         private int toldTies;
         private int toldFields;
 
-        private void build(Tape tape) {
+        private Draft(Tape tape) {
+            this.tape = tape;
+        }
+
+        private void build() {
             begin();
-            int syntax = tokens.cut(tape);
+            int syntax = tape.cut();
             if (syntax != 0) {
                 blame(syntax, tape.start);
                 return;
             }
             takeSize();
             seeRings();
-            for (int n = 0; n < MOST_TOKENS && fault == 0 && cursor < tokens.many; n++) {
+            for (int n = 0; n < MOST_TOKENS && fault == 0 && cursor < tape.many; n++) {
                 takeTell();
             }
             giveUntold();
@@ -1042,13 +1029,13 @@ public final class SpinStrip {
         }
 
         private int takeKind() {
-            int kind = tokens.kindAt(cursor);
+            int kind = tape.kindAt(cursor);
             cursor++;
             return kind;
         }
 
         private int takeInt() {
-            int number = tokens.numberAt(cursor);
+            int number = tape.numberAt(cursor);
             cursor++;
             return number;
         }
@@ -1057,20 +1044,20 @@ public final class SpinStrip {
             takeKind();
             wide = takeInt();
             if (wide < 1 || wide > MOST_WIDE) {
-                blame(FAULT_WRONG, tokens.placeAt(cursor - 1));
+                blame(FAULT_WRONG, tape.placeAt(cursor - 1));
             }
             tall = takeInt();
             if (tall < 1 || tall > MOST_SITES || wide * tall > MOST_SITES) {
-                blame(FAULT_WRONG, tokens.placeAt(cursor - 1));
+                blame(FAULT_WRONG, tape.placeAt(cursor - 1));
             }
             takeKind();
         }
 
         /** A tie may be told ahead of the ring that makes it. */
         private void seeRings() {
-            for (int i = cursor; i < tokens.many; i++) {
-                if (tokens.kindAt(i) == RING) {
-                    rings |= tokens.kindAt(i + 1) == ACROSS ? RING_ACROSS : RING_ALONG;
+            for (int i = cursor; i < tape.many; i++) {
+                if (tape.kindAt(i) == RING) {
+                    rings |= tape.kindAt(i + 1) == ACROSS ? RING_ACROSS : RING_ALONG;
                 }
             }
         }
@@ -1106,13 +1093,13 @@ public final class SpinStrip {
         }
 
         private int takeJ() {
-            boolean below = tokens.kindAt(cursor) == MINUS;
+            boolean below = tape.kindAt(cursor) == MINUS;
             if (below) {
                 takeKind();
             }
             int size = takeInt();
             if (size > MOST_J) {
-                blame(FAULT_WRONG, tokens.placeAt(cursor - 1));
+                blame(FAULT_WRONG, tape.placeAt(cursor - 1));
             }
             return below ? -size : size;
         }
@@ -1120,7 +1107,7 @@ public final class SpinStrip {
         private int takeSite() {
             int site = takeInt();
             if (site >= wide * tall) {
-                blame(FAULT_NONE, tokens.placeAt(cursor - 1));
+                blame(FAULT_NONE, tape.placeAt(cursor - 1));
             }
             return site;
         }
@@ -1129,7 +1116,7 @@ public final class SpinStrip {
             int site = takeSite();
             int tiePlace = takeKind() == ALONG ? MOST_SITES + site : site;
             if (fault == 0 && Grid.endOf(wide, tall, rings, tiePlace) == NONE) {
-                blame(FAULT_NONE, tokens.placeAt(cursor - 2));
+                blame(FAULT_NONE, tape.placeAt(cursor - 2));
             }
             int j = takeJ();
             if (fault == 0) {
@@ -1518,6 +1505,17 @@ public final class SpinStrip {
             return bits >= 0 && bits < cells.length ? cells[bits] : 0;
         }
 
+        private boolean hasNoneLower(int bits, int pinned, int states) {
+            int energy = of(bits);
+            for (int bit = 1; bit < states; bit += bit) {
+                int next = bits ^ bit;
+                if ((pinned & bit) == 0 && next >= 0 && next < cells.length && cells[next] < energy) {
+                    return false;
+                }
+            }
+            return true;
+        }
+
         /** Sites come in one by one, each doubling the states: so a state costs a look at its last site's ties alone. */
         private void fill(Grid grid, int[] bonds, int[] fields, int sites) {
             if (sites < 0 || sites > MOST_SITES) {
@@ -1564,7 +1562,7 @@ public final class SpinStrip {
         private int pulledByMates(int bits) {
             int pulled = 0;
             for (int m = 0; m < lowerMany && m < MOST_MATES; m++) {
-                pulled += bitOf(bits, lower[m]) == 1 ? lowerBonds[m] : -lowerBonds[m];
+                pulled += ((bits >> lower[m]) & 1) == 1 ? lowerBonds[m] : -lowerBonds[m];
             }
             return pulled;
         }
@@ -1579,15 +1577,17 @@ public final class SpinStrip {
         private int many;
         private int stamp = NONE;
 
+        /** From the last state on, so that the least one of a level is the one that stays. */
         private void gather(Energies energies, Setup setup, int states) {
             Arrays.fill(ways, 0);
             Arrays.fill(waysByUps, 0);
-            for (int s = 0; s < states; s++) {
+            for (int s = states - 1; s >= 0; s--) {
                 int at = energies.of(s) + MOST_ENERGY;
-                if (setup.allows(s) && at >= 0 && at < ENERGIES) {
-                    least[at] = ways[at] == 0 ? s : least[at];
+                int ups = Integer.bitCount(s);
+                if (setup.allows(s) && at >= 0 && at < ENERGIES && ups < UPS) {
+                    least[at] = s;
                     ways[at]++;
-                    waysByUps[at * UPS + Integer.bitCount(s) % UPS]++;
+                    waysByUps[at * UPS + ups]++;
                 }
             }
             listLevels();

@@ -12,8 +12,8 @@ public final class AgainstNaiveTest {
     private AgainstNaiveTest(long seed) { lot = new Random(seed); }
 
     public static void main(String[] args) {
-        for (int run = 0; run < 1500; run++) new AgainstNaiveTest(run).go(16, run % 30 == 0 ? 16 : 9, 60);
-        for (int run = 0; run < 200; run++) new AgainstNaiveTest(10000 + run).go(60, 10, 300);
+        for (int run = 0; run < 1500; run++) new AgainstNaiveTest(run).go(run % 30 == 0 ? 16 : 9, 60);
+        for (int run = 0; run < 200; run++) new AgainstNaiveTest(10000 + run).go(10, 300);
         for (int run = 0; run < 3000; run++) new AgainstNaiveTest(20000 + run).texts();
         Check.end();
     }
@@ -100,12 +100,10 @@ public final class AgainstNaiveTest {
         for (int k = 0; k < n.sites(); k++) for (int what = 2; what < 6; what++) due("site(" + k + ", " + what + ")", x.site(k, what), n.site(k, what));
     }
 
-    private void go(int most, int sitesMost, int calls) {
+    private void go(int sitesMost, int calls) {
         if (lot.nextInt(10) != 0) readBoth(text(sitesMost));
         for (int c = 0; c < calls; c++) {
-            int before = told.length();
             if (lot.nextInt(3) == 0) change(sitesMost); else ask();
-            if (told.length() - before > 100000) told.setLength(0);
         }
         compareCounts();
     }
