@@ -134,6 +134,8 @@ public final class PromiseTest {
         Check.fault("strip 2 2 ", 1, 10);
         Check.fault("strip 2;", 1, 7);
         Check.fault("strips 2 2;", 1, 0);
+        Check.fault("stripz 2 2;", 1, 0);
+        Check.fault("stripa 2 2;", 1, 0);
         Check.fault("Strip 2 2;", 1, 0);
         Check.fault("sTrip 2 2;", 1, 0);
         Check.fault(" \n@", 1, 2);
@@ -653,6 +655,8 @@ public final class PromiseTest {
         due("26 256", y.overlap(1), 8 * 256 / 2);
         due("26 more", Check.strip("strip 3 3;").overlap(1), -2);
         due("26 more, whatever q is", Check.strip("strip 3 3;").overlap(-1), -2);
+        SpinStrip z = Check.strip("strip 4 3; pull 0 1; pull 1 1; pull 2 1; pull 3 1;");
+        due("26 256, and more of the next level", z.overlap(1), 8 * 256 / 2);
         due("26 pinned", Check.strip("strip 3 3; pin 0 up;").overlap(8), 128);
     }
 
@@ -911,11 +915,21 @@ public final class PromiseTest {
         due("17 most energy", y.ground(0), 144);
         due("17 alone", y.ground(3), -2);
         due("20 value", y.value(5), 1);
+        due("14 ways", y.level(0, 1), 1);
+        due("14 least", y.level(0, 2), 65535);
         due("38 states", y.count(3), 1);
         due("38 pinned", y.count(4), 65535);
         due("16 broken", y.broken(32), 1);
         y.hold(0);
         due("21 joined", y.joined(0, 0, 0), 288);
+        due("21 joined", y.joined(0, -1, 0), 1);
+        due("9 glass", y.glass(0) && y.undo(), true);
+        for (int site = 0; site < 16; site++) due("6 turned about", y.tie(site, false, 3) && y.tie(site, true, 3) && y.pull(site, 3), true);
+        due("17 least energy", y.ground(0), -144);
+        due("21 joined", y.joined(0, 0, 0), 0);
+        y.hold(0);
+        due("21 joined", y.joined(0, -1, 0), 1);
+        due("21 joined", y.joined(0, 0, 0), -288);
         due("29 more than ten", y.hill(65535), R);
     }
 
