@@ -13,8 +13,8 @@ public final class AgainstNaiveTest {
 
     public static void main(String[] args) {
         for (int run = 0; run < 1500; run++) new AgainstNaiveTest(run).go(run % 30 == 0 ? 16 : 9, 60);
-        for (int run = 0; run < 200; run++) new AgainstNaiveTest(10000 + run).go(10, 300);
-        for (int run = 0; run < 3000; run++) new AgainstNaiveTest(20000 + run).texts();
+        for (int run = 0; run < 200; run++) new AgainstNaiveTest(10000 + run).go(10, 230);
+        for (int run = 0; run < 6000; run++) new AgainstNaiveTest(20000 + run).texts();
         Check.end();
     }
 
@@ -77,7 +77,7 @@ public final class AgainstNaiveTest {
 
     /** Texts with faults: valid ones with a byte or a token changed, cut off, or grown too long. */
     private void texts() {
-        for (int k = 0; k < 4; k++) {
+        for (int k = 0; k < 2; k++) {
             StringBuilder s = new StringBuilder(text(16));
             int how = lot.nextInt(8);
             if (how == 7) while (s.length() < 1900) s.append(lot.nextInt(3) == 0 ? "seed 1;" : "field-1;").append(lot.nextInt(30) == 0 ? "\n" : "");
