@@ -24,7 +24,8 @@ final class StateSentences {
         hills();
         lakesAndDown();
         nearestAndClusters();
-        rows();
+        rows(false);
+        rows(true);
         squares();
         overlapBasinStiff();
         glass();
@@ -388,9 +389,16 @@ final class StateSentences {
         due("the most turns", Check.strip("strip 1 16;").cluster(15), 65535);
     }
 
-    private static void rows() {
+    /** A strip that is told and, if so, asked for much else first. */
+    private static SpinStrip told(String text, boolean asked) {
+        SpinStrip x = Check.strip(text);
+        if (asked) Mirror.ask(x);
+        return x;
+    }
+
+    private static void rows(boolean asked) {
         of("ROWS up to r: SITES of rows 0 .. r alone, with what ties them to each other");
-        SpinStrip x = Check.strip("strip 2 3; across 1; along 2; field 3; pull 0 0; pull 1 0; ring across;");
+        SpinStrip x = told("strip 2 3; across 1; along 2; field 3; pull 0 0; pull 1 0; ring across;", asked);
         for (int e = -9; e <= 9; e++) {
             due("row 0 alone", x.rows(0, 0, e), e == -1 ? 1 : 0);
             due("row 0 alone", x.rows(0, 1, e), e == 1 ? 1 : 0);
@@ -399,7 +407,7 @@ final class StateSentences {
         int[][] want = {{-12, 1}, {-6, 2}, {-4, 1}};
         for (int[] w : want) due("rows 0 and 1", x.rows(1, 3, w[0]), w[1]);
         of("(of a RING ALONG nothing, if r is not the last row),");
-        SpinStrip ring = Check.strip("strip 1 4; ring along; along 1;");
+        SpinStrip ring = told("strip 1 4; ring along; along 1;", asked);
         due("0", ring.rows(0, 1, 0), 1);
         due("0 to 1", ring.rows(1, 1, -1), 1);
         due("0 to 2", ring.rows(2, 1, -2), 1);
@@ -408,10 +416,10 @@ final class StateSentences {
         due("the last row", ring.rows(3, 1, -4), 1);
         due("the last row", ring.rows(3, 1, 0), 6);
         due("the last row", ring.rows(3, 1, 4), 1);
-        due("a ring of two is none", Check.strip("strip 1 2; ring along; along 1;").rows(1, 1, -1), 1);
-        due("one row", Check.strip("strip 3 1; ring across; ring along; across 1; along 3;").rows(0, 0, -3), 1);
+        due("a ring of two is none", told("strip 1 2; ring along; along 1;", asked).rows(1, 1, -1), 1);
+        due("one row", told("strip 3 1; ring across; ring along; across 1; along 3;", asked).rows(0, 0, -3), 1);
         of("their FIELDS and PINS: by what row r is (bit c its column c) how many ways they have each ENERGY.");
-        SpinStrip y = Check.strip("strip 4 2; pull 0 1; pull 3 2; pull 4 3; pin 1 up; pin 6 down;");
+        SpinStrip y = told("strip 4 2; pull 0 1; pull 3 2; pull 4 3; pin 1 up; pin 6 down;", asked);
         due("FIELDS", y.rows(0, 0b1011, -3), 1);
         due("bit c its column c", y.rows(0, 0b0010, 3), 1);
         due("bit c its column c", y.rows(0, 0b1010, -1), 1);
@@ -421,9 +429,9 @@ final class StateSentences {
         due("row 1", y.rows(1, 0b0001, -6), 2);
         due("row 1", y.rows(1, 0b0101, -6), 0);
         due("row 1", y.rows(1, 0b0000, 6), 2);
-        SpinStrip up = Check.strip("strip 2 3; pin 0 up; pin 1 up; pin 2 up; pin 3 up; pin 4 up; pin 5 up;");
+        SpinStrip up = told("strip 2 3; pin 0 up; pin 1 up; pin 2 up; pin 3 up; pin 4 up; pin 5 up;", asked);
         for (int r = 0; r < 3; r++) for (int row = 0; row < 4; row++) due("all pinned UP", up.rows(r, row, 0), row == 3 ? 1 : 0);
-        due("many ways", Check.strip("strip 4 4;").rows(3, 15, 0), 4096);
+        due("many ways", told("strip 4 4;", asked).rows(3, 15, 0), 4096);
     }
 
     private static void squares() {
@@ -612,29 +620,34 @@ final class StateSentences {
     /** Whatever has been asked before a change by hand, the answers behind it are those of a strip told so. */
     private static void changes() {
         String told = "strip 3 2; ring across; across -1; along 2; field 1; pull 4 -1; pin 2 up; seed 9;";
-        for (int k = 0; k < 14; k++) {
+        for (int one = 0; one < 14; one++) for (int other = 0; other <= 14; other++) {
             SpinStrip x = Check.strip(told);
             x.hold(0);
             Mirror.ask(x);
-            boolean done = switch (k) {
-                case 0 -> x.tie(0, false, 2);
-                case 1 -> x.tie(1, true, -3);
-                case 2 -> x.tie(2, false, 0);
-                case 3 -> x.pull(0, -3);
-                case 4 -> x.pull(5, 0);
-                case 5 -> x.pin(5, 1);
-                case 6 -> x.pin(2, 2);
-                case 7 -> x.pin(2, 0);
-                case 8 -> x.glass(0);
-                case 9 -> x.glass(9999);
-                case 10 -> x.turn(3);
-                case 11 -> x.fall() > 0;
-                case 12 -> x.tie(0, false, 2) && x.stuck(false) > 0 && x.broken(0) >= 0 && x.lakes(0) > 0 && x.undo();
-                default -> x.pin(0, 1) && x.stuck(false) > 0 && x.broken(0) >= 0 && x.lakes(0) > 0 && x.restore(0);
-            };
-            due("change " + k, done, true);
-            Mirror.same("change " + k, x);
+            due("change " + one, change(x, one), true);
+            // nothing is asked between the two; the second may be refused behind the first
+            if (other < 14) change(x, other);
+            Mirror.same("change " + one + ", then " + other, x);
         }
+    }
+
+    private static boolean change(SpinStrip x, int k) {
+        return switch (k) {
+            case 0 -> x.tie(0, false, 2);
+            case 1 -> x.tie(1, true, -3);
+            case 2 -> x.tie(2, false, 0);
+            case 3 -> x.pull(0, -3);
+            case 4 -> x.pull(5, 0);
+            case 5 -> x.pin(5, 1);
+            case 6 -> x.pin(2, 2);
+            case 7 -> x.pin(2, 0);
+            case 8 -> x.glass(0);
+            case 9 -> x.glass(9999);
+            case 10 -> x.turn(3);
+            case 11 -> x.fall() > 0;
+            case 12 -> x.tie(0, true, 1) && x.stuck(false) > 0 && x.broken(0) >= 0 && x.lakes(0) > -1 && x.undo();
+            default -> x.pin(0, 1) && x.stuck(false) > 0 && x.broken(0) >= 0 && x.lakes(0) > -1 && x.restore(0);
+        };
     }
 
     private static void orders() {
