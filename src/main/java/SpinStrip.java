@@ -15,6 +15,8 @@ public final class SpinStrip {
     private static final int MOST_J = 3;
     /** All ties and all fields pulling the same way. */
     private static final int MOST_ENERGY = MOST_J * (TIE_PLACES + MOST_SITES);
+    /** Above every energy that a state can have. */
+    private static final int NO_ENERGY = MOST_ENERGY + 1;
     private static final int ENERGIES = 2 * MOST_ENERGY + 1;
     private static final int JOINED_ENERGIES = 2 * ENERGIES - 1;
     private static final int UPS = MOST_SITES + 1;
@@ -97,8 +99,8 @@ public final class SpinStrip {
     private int stamps;
 
     public SpinStrip() {
-        tape = new Tape();
-        draft = new Draft(tape);
+        draft = new Draft();
+        tape = draft.tape;
         grid = new Grid();
         now = new Setup();
         past = new Past();
@@ -523,8 +525,8 @@ public final class SpinStrip {
         }
         energiesNow();
         int states = grid.states();
-        int unlike = Integer.MAX_VALUE;
-        int alike = Integer.MAX_VALUE;
+        int unlike = NO_ENERGY;
+        int alike = NO_ENERGY;
         for (int s = 0; s < states; s++) {
             if (now.allows(s)) {
                 if (bitOf(s, one) == bitOf(s, other)) {
@@ -534,7 +536,7 @@ public final class SpinStrip {
                 }
             }
         }
-        boolean missing = alike == Integer.MAX_VALUE || unlike == Integer.MAX_VALUE;
+        boolean missing = alike == NO_ENERGY || unlike == NO_ENERGY;
         return missing ? REFUSED : unlike - alike;
     }
 
@@ -974,7 +976,7 @@ public final class SpinStrip {
 
     /** What a text tells, gathered apart from the strip, which a fault must leave as it is. */
     private static final class Draft {
-        private final Tape tape;
+        private final Tape tape = new Tape();
         private final Setup setup = new Setup();
         private int fault;
         private int faultPlace;
@@ -987,10 +989,6 @@ public final class SpinStrip {
         private int allFields;
         private int toldTies;
         private int toldFields;
-
-        private Draft(Tape tape) {
-            this.tape = tape;
-        }
 
         private void build() {
             begin();

@@ -1,12 +1,14 @@
 import java.io.IOException;
 import java.nio.file.Files;
 import java.nio.file.Path;
+import java.util.ArrayList;
 import java.util.LinkedHashMap;
+import java.util.List;
 import java.util.Map;
 
 /**
  * The document's own words: a test names the words it holds, these must stand in the document as quoted, and
- * at the end every word of Terms and of promises 1 to 38 must stand in some test's quote.
+ * at the end every word of the document must stand in some test's quote (the promises' heads are looked at as such).
  */
 final class Sentence {
     static final String TERMS = "Terms";
@@ -14,6 +16,7 @@ final class Sentence {
     private static final Path DOC = Path.of("../shared/DOC.md");
     private static final Map<String, String> BODIES = new LinkedHashMap<>();
     private static final Map<String, boolean[]> QUOTED = new LinkedHashMap<>();
+    private static final List<String> HEADS = new ArrayList<>();
 
     private Sentence() { }
 
@@ -28,9 +31,10 @@ final class Sentence {
             String body = part.substring(section.length());
             if (section.startsWith("Promise ")) {
                 int number = Integer.parseInt(section.substring(8, section.indexOf(':')));
-                if (number <= PROMISES) keep("Promise " + number, body.substring(body.indexOf("`:") + 2));
-            } else if (section.equals(TERMS)) {
-                keep(TERMS, body.replace("```text", " ").replace("```", " "));
+                keep("Promise " + number, body.substring(body.indexOf("`:") + 2));
+                HEADS.add(body.substring(body.indexOf('`') + 1, body.indexOf("`:")));
+            } else if (!section.startsWith("# ")) {
+                keep(section, body.replace("```text", " ").replace("```java", " ").replace("```", " "));
             }
         }
     }
@@ -45,10 +49,16 @@ final class Sentence {
 
     static void ofPromise(int number, String words) { of("Promise " + number, words); }
 
-    private static void of(String section, String words) {
+    /** A section's words, blanks drawn together; none if the document is not here or has no such section. */
+    static String bodyOf(String section) { return BODIES.getOrDefault(section, ""); }
+
+    /** Of each promise what stands ahead of its words: the constructor or the method that it tells of. */
+    static List<String> heads() { return HEADS; }
+
+    static void of(String section, String words) {
         Check.label(section + " \"" + words + "\"");
         if (BODIES.isEmpty()) return;
-        int at = BODIES.getOrDefault(section, "").indexOf(words);
+        int at = bodyOf(section).indexOf(words);
         Check.due("the document says so", at >= 0, true);
         for (int k = 0; at >= 0 && k < words.length(); k++) QUOTED.get(section)[at + k] = true;
     }
@@ -64,6 +74,6 @@ final class Sentence {
             }
             Check.due("words of " + entry.getKey() + " that no test quotes: " + left.toString().trim(), left.toString().isBlank(), true);
         }
-        if (!BODIES.isEmpty()) Check.due("sections", BODIES.size(), PROMISES + 1);
+        if (!BODIES.isEmpty()) Check.due("sections", BODIES.size(), PROMISES + 4);
     }
 }

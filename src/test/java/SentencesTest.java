@@ -6,6 +6,7 @@ public final class SentencesTest {
 
     public static void main(String[] args) throws IOException {
         Sentence.load();
+        DocumentSentences.run();
         TextSentences.run();
         StateSentences.run();
         CallSentences.run();
