@@ -46,6 +46,9 @@ public final class LanguageTest {
         }
         Matcher imports = Pattern.compile("import ([^;]*);").matcher(bare);
         while (imports.find()) Check.due("rule 4: import " + imports.group(1), imports.group(1).equals("java.util.Arrays"), true);
+        Matcher library = Pattern.compile("\\b(Integer|Long|Math|Arrays|System|String)\\.\\w+").matcher(bare);
+        Set<String> allowed = Set.of("Integer.bitCount", "Integer.signum", "Math.abs", "Math.max", "Math.min", "Arrays.fill", "System.arraycopy");
+        while (library.find()) Check.due("rule 4: " + library.group(), allowed.contains(library.group()), true);
         for (char c : source.toCharArray()) if (c > 127) Check.due("a sign above 127", c, 127);
     }
 
