@@ -233,6 +233,7 @@ final class DocumentSentences {
     }
 
     private static String valueOf(Field f) {
+        if (!Modifier.isStatic(f.getModifiers())) return "an object's own";
         try {
             return String.valueOf(f.get(null));
         } catch (IllegalAccessException e) {
